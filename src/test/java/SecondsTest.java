@@ -13,6 +13,7 @@ public final class SecondsTest {
         slidingBack();
         shoulders();
         closingLate();
+        allDoorsClose();
         jams();
         CHECKS.end();
     }
@@ -182,6 +183,26 @@ public final class SecondsTest {
         CHECKS.due("rest", train.doorOf(0, 1, 1), BallastTrain.NONE);
         CHECKS.due("it let ballast fall for three seconds", train.wagon(0, 4), 3);
         CHECKS.due("no jam", train.count(6), 0);
+    }
+
+    private static void allDoorsClose() {
+        BallastTrain train = new BallastTrain();
+        train.setTrain(6);
+        for (int wagon = 0; wagon < 6; wagon++) {
+            for (int door = 0; door < 3; door++) {
+                train.door(wagon, door, 3);
+                train.door(wagon, door, 0);
+            }
+        }
+        train.pass(1);
+        for (int wagon = 0; wagon < 6; wagon++) {
+            CHECKS.due("doors of " + wagon + " that are closing", train.wagon(wagon, 3), 3);
+        }
+        train.pass(1);
+        for (int wagon = 0; wagon < 6; wagon++) {
+            CHECKS.due("doors of " + wagon + " that are closing", train.wagon(wagon, 3), 0);
+            CHECKS.due("levels of " + wagon, train.wagon(wagon, 2), 0);
+        }
     }
 
     private static void jams() {

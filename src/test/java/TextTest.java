@@ -36,6 +36,8 @@ public final class TextTest {
         CHECKS.due("length", train.count(13), 0);
         CHECKS.due("fault of the empty text", train.fault(), BallastTrain.NONE);
         CHECKS.due("clearing is no change", train.count(12), 0);
+        Checks.typed(train, "@1v1");
+        CHECKS.due("what was cleared is not read", train.fault(), 4);
     }
 
     private static void textsWithoutFault() {
@@ -91,6 +93,10 @@ public final class TextTest {
 
     private static void blanks() {
         fault("   ", BallastTrain.NONE);
+        fault(" ".repeat(60), BallastTrain.NONE);
+        fault(" ".repeat(59) + "@", 60);
+        fault(" ".repeat(59) + "x", 59);
+        fault("@1v1" + " ".repeat(55) + ";", BallastTrain.NONE);
         fault("  @  12  o  3  m  2  ;  @ 3 c 1 r ; @ 4 v 2 ;  ", BallastTrain.NONE);
         fault("@1 2v1;", 3);
         fault("@4 0v1;", 3);

@@ -89,6 +89,8 @@ public final class TrackTest {
         train.scrape(3, 1, 60);
         profile(train, 1, 56, 15, 6, 2, 1, 14);
         profile(withHeaps(0, new int[] {0, 1, 39}, new int[] {9, 8, 8}), 0, 25, 9, 0, 3, 2, 8);
+        profile(withHeaps(2, new int[] {0}, new int[] {9}), 2, 9, 9, 0, 1, 1, 9);
+        profile(withHeaps(2, new int[] {0, 1}, new int[] {8, 9}), 2, 17, 9, 1, 2, 2, 9);
     }
 
     private static void cellsThatLack() {
@@ -112,6 +114,11 @@ public final class TrackTest {
         CHECKS.due("units up to the aim", full.lacking(-1), 240 - 11);
         full.set(4, 1);
         CHECKS.due("two cells have enough", full.lacking(2), 4);
+        for (int strip = 0; strip < 3; strip++) {
+            full.scrape(3, strip, 60);
+            CHECKS.due("strip " + strip + " alone is low", full.lacking(2), 3);
+            full.undo();
+        }
         full.set(4, 0);
         CHECKS.due("nothing lacks", full.lacking(0), BallastTrain.NONE);
         CHECKS.due("no units lack", full.lacking(-1), 0);
