@@ -19,7 +19,7 @@ public final class ForetellTest {
         train.load(1, 60);
         train.set(1, 3);
         train.set(0, 2);
-        Checks.typed(train, "@0o0l3;@1o0m2;@9c0l;@2o1r1;@39o5l1;@20v0;").order();
+        Trains.typed(train, "@0o0l3;@1o0m2;@9c0l;@2o1r1;@39o5l1;@20v0;").order();
         train.wish(2);
         return train;
     }
@@ -92,7 +92,7 @@ public final class ForetellTest {
         CHECKS.unchanged("emptyAfter()", train, before);
         train.door(0, 1, 0);
         CHECKS.due("the door closes", train.emptyAfter(), BallastTrain.NONE);
-        Checks.typed(train, "@10o0m3;").order();
+        Trains.typed(train, "@10o0m3;").order();
         train.wish(1);
         CHECKS.due("an order opens it", train.emptyAfter(), 11);
         train.set(3, 0);
@@ -102,7 +102,7 @@ public final class ForetellTest {
     private static void emptyAfterFourHundred() {
         BallastTrain train = new BallastTrain();
         train.setTrain(6);
-        Checks.typed(train, "@39o5l1;").order();
+        Trains.typed(train, "@39o5l1;").order();
         train.load(5, 200);
         train.wish(1);
         CHECKS.due("place 59 after 60 seconds, then 200", train.emptyAfter(), 259);

@@ -18,8 +18,8 @@ public final class HistoryTest {
     }
 
     private static BallastTrain busy() {
-        BallastTrain train = Checks.standingAt(4, 150);
-        Checks.typed(train, "@30c0r;@35v2;").order();
+        BallastTrain train = Trains.standingAt(4, 150);
+        Trains.typed(train, "@30c0r;@35v2;").order();
         train.set(2, 3);
         train.door(0, 0, 3);
         train.door(0, 1, 2);
@@ -52,7 +52,7 @@ public final class HistoryTest {
 
     private static void undone(String name, Change change) {
         BallastTrain train = busy();
-        long[] told = told(train);
+        long[] told = told(busy());
         CHECKS.due(name + " is no error", change.make(train) >= 0 ? 1 : 0, 1);
         CHECKS.due("states after " + name, train.count(12), 6);
         CHECKS.due("undo() of " + name, train.undo(), 5);
@@ -106,7 +106,7 @@ public final class HistoryTest {
     }
 
     private static void textIsNoPartOfAState() {
-        BallastTrain train = Checks.typed("@1v1;");
+        BallastTrain train = Trains.typed("@1v1;");
         train.order();
         train.type(64);
         CHECKS.due("undo()", train.undo(), 0);
@@ -116,7 +116,7 @@ public final class HistoryTest {
 
     private static void whatIsToldIsNoChange() {
         BallastTrain train = busy();
-        long[] before = told(train);
+        long[] before = told(busy());
         train.foretell(200, 0);
         train.emptyAfter();
         train.digest();

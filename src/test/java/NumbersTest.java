@@ -36,9 +36,9 @@ public final class NumbersTest {
 
     private static BallastTrain busy() {
         BallastTrain train = new BallastTrain();
-        Checks.typed(train, "@39o5l1;@30c0m;@35v1; @ ");
+        Trains.typed(train, "@39o5l1;@30c0m;@35v1; @ ");
         train.order();
-        Checks.typed(train, "@39o5l1;@30c0m;@35v1;");
+        Trains.typed(train, "@39o5l1;@30c0m;@35v1;");
         train.order();
         train.type(120);
         train.setTrain(2);
@@ -99,9 +99,10 @@ public final class NumbersTest {
     private static void digestOfABusyOne() {
         BallastTrain train = busy();
         CHECKS.due("digest()", train.digest(), digestOf(train, "@39o5l1;@30c0m;@35v1;x"));
-        train.setTrain(6);
-        Checks.typed(train, "a b").wish(3);
-        CHECKS.due("digest()", train.digest(), digestOf(train, "a b"));
+        BallastTrain six = busy();
+        six.setTrain(6);
+        Trains.typed(six, "a b").wish(3);
+        CHECKS.due("digest()", six.digest(), digestOf(six, "a b"));
     }
 
     /** The digest as the document tells it, from the answers of the other methods. */

@@ -25,7 +25,7 @@ public final class OrdersTest {
 
     private static void partsOfOrders() {
         int none = BallastTrain.NONE;
-        BallastTrain train = Checks.typed("@12o3m2; @07c5r; @ 39 v 3 ; @4o0l1;");
+        BallastTrain train = Trains.typed("@12o3m2; @07c5r; @ 39 v 3 ; @4o0l1;");
         CHECKS.due("order()", train.order(), 4);
         CHECKS.due("orders", train.count(5), 4);
         CHECKS.due("the text stays", train.count(13), 35);
@@ -44,32 +44,32 @@ public final class OrdersTest {
         BallastTrain train = new BallastTrain();
         CHECKS.due("order() of the empty text", train.order(), 0);
         CHECKS.due("states", train.count(12), 1);
-        CHECKS.due("order() of blanks", Checks.typed(train, "  ").order(), 0);
+        CHECKS.due("order() of blanks", Trains.typed(train, "  ").order(), 0);
         CHECKS.due("states", train.count(12), 2);
     }
 
     private static void faultyText() {
-        BallastTrain train = Checks.typed("@1v1;@1v1");
+        BallastTrain train = Trains.typed("@1v1;@1v1");
         long before = train.digest();
         CHECKS.due("order() of a faulty text", train.order(), BallastTrain.STATE);
         CHECKS.unchanged("order() of a faulty text", train, before);
     }
 
     private static void fullList() {
-        BallastTrain train = Checks.typed("@9v1;@9v1;@9v1;@9v1;@9v1;@9v1;@9v1;@9v1;@9v1;@9v1;@9v1;");
+        BallastTrain train = Trains.typed("@9v1;@9v1;@9v1;@9v1;@9v1;@9v1;@9v1;@9v1;@9v1;@9v1;@9v1;");
         CHECKS.due("11 orders at once", train.order(), BallastTrain.FULL);
         CHECKS.due("none of them came", train.count(5), 0);
-        CHECKS.due("9 orders", Checks.typed(train, "@9v1;@9v1;@9v1;@9v1;@9v1;@9v1;@9v1;@9v1;@9v1;").order(), 9);
-        CHECKS.due("one order", Checks.typed(train, "@9v2;").order(), 1);
+        CHECKS.due("9 orders", Trains.typed(train, "@9v1;@9v1;@9v1;@9v1;@9v1;@9v1;@9v1;@9v1;@9v1;").order(), 9);
+        CHECKS.due("one order", Trains.typed(train, "@9v2;").order(), 1);
         long before = train.digest();
         CHECKS.due("an eleventh order", train.order(), BallastTrain.FULL);
         CHECKS.unchanged("an eleventh order", train, before);
-        CHECKS.due("a faulty text on a full list", Checks.typed(train, "@9v2;x").order(), BallastTrain.STATE);
-        CHECKS.due("no order on a full list", Checks.typed(train, " ").order(), 0);
+        CHECKS.due("a faulty text on a full list", Trains.typed(train, "@9v2;x").order(), BallastTrain.STATE);
+        CHECKS.due("no order on a full list", Trains.typed(train, " ").order(), 0);
     }
 
     private static void cancelling() {
-        BallastTrain train = Checks.typed("@1v1;@2v2;@3v3;");
+        BallastTrain train = Trains.typed("@1v1;@2v2;@3v3;");
         train.order();
         long before = train.digest();
         CHECKS.due("cancel(-1)", train.cancel(-1), BallastTrain.BAD);
@@ -86,7 +86,7 @@ public final class OrdersTest {
     }
 
     private static void wrongQuestions() {
-        BallastTrain train = Checks.typed("@1v1;");
+        BallastTrain train = Trains.typed("@1v1;");
         train.order();
         CHECKS.due("ordered(-1, 0)", train.ordered(-1, 0), BallastTrain.BAD);
         CHECKS.due("ordered(0, -1)", train.ordered(0, -1), BallastTrain.BAD);
@@ -96,7 +96,7 @@ public final class OrdersTest {
     }
 
     private static void dueAtThePlace() {
-        BallastTrain train = Checks.typed("@3o1m2;@5v2;");
+        BallastTrain train = Trains.typed("@3o1m2;@5v2;");
         train.order();
         train.wish(1);
         train.pass(5);
@@ -112,7 +112,7 @@ public final class OrdersTest {
         CHECKS.due("orders", train.count(5), 0);
         train.wish(3);
         train.pass(1);
-        Checks.typed(train, "@1o0l3;@4v0;").order();
+        Trains.typed(train, "@1o0l3;@4v0;").order();
         CHECKS.due("no order is carried out at once", train.count(5), 2);
         train.pass(1);
         CHECKS.due("orders beyond their cells", train.count(5), 0);
@@ -121,14 +121,14 @@ public final class OrdersTest {
     }
 
     private static void carriedOutInOrder() {
-        BallastTrain train = Checks.typed("@2o0l1;@1o0l3;@2v2;@1v3;");
+        BallastTrain train = Trains.typed("@2o0l1;@1o0l3;@2v2;@1v3;");
         train.order();
         train.wish(2);
         train.pass(2);
         CHECKS.due("the later order counts", train.doorOf(0, 0, 0), 3);
         CHECKS.due("the later wish counts", train.count(3), 3);
         CHECKS.due("orders", train.count(5), 0);
-        Checks.typed(train, "@1c0l;@1o0l2;@1o0r1;@1c0r;").order();
+        Trains.typed(train, "@1c0l;@1o0l2;@1o0r1;@1c0r;").order();
         train.pass(1);
         CHECKS.due("closed, then opened", train.doorOf(0, 0, 0), 2);
         CHECKS.due("opened, so not closing", train.doorOf(0, 0, 1), BallastTrain.NONE);
@@ -137,7 +137,7 @@ public final class OrdersTest {
     }
 
     private static void wagonThatDoesNotExist() {
-        BallastTrain train = Checks.typed("@0o3l1;@0o5r2;@0v1;");
+        BallastTrain train = Trains.typed("@0o3l1;@0o5r2;@0v1;");
         train.order();
         train.wish(3);
         train.pass(40);
@@ -154,10 +154,10 @@ public final class OrdersTest {
     }
 
     private static void closingInTheSameSecond() {
-        BallastTrain train = Checks.standingAt(2, 50);
+        BallastTrain train = Trains.standingAt(2, 50);
         train.set(2, 0);
         train.door(0, 1, 3);
-        Checks.typed(train, "@2c0m;").order();
+        Trains.typed(train, "@2c0m;").order();
         train.pass(1);
         CHECKS.due("ballast still falls", train.height(2, 1), 3);
         CHECKS.due("the door is closed", train.doorOf(0, 1, 0), 0);
@@ -165,7 +165,7 @@ public final class OrdersTest {
     }
 
     private static void ordersThatAreLeftKeepTheirOrder() {
-        BallastTrain train = Checks.typed("@9v1;@0v2;@8v1;@0c0l;@7v1;");
+        BallastTrain train = Trains.typed("@9v1;@0v2;@8v1;@0c0l;@7v1;");
         train.order();
         train.wish(1);
         train.pass(1);

@@ -478,6 +478,48 @@ final class PlainTrain {
             world.taken, history.size(), text.length(), s[0], s[1], s[2], s[3], s[4]}[what];
     }
 
+    long digest() {
+        List<Integer> numbers = new ArrayList<>();
+        for (int what = 0; what <= 18; what++) {
+            numbers.add(count(what));
+        }
+        for (int w = 0; w < world.wagons.size(); w++) {
+            for (int what = 0; what <= 4; what++) {
+                numbers.add(wagon(w, what));
+            }
+            for (int d = 0; d <= 2; d++) {
+                numbers.add(doorOf(w, d, 0));
+                numbers.add(doorOf(w, d, 1));
+            }
+        }
+        for (int cell = 0; cell <= 39; cell++) {
+            for (int strip = 0; strip <= 2; strip++) {
+                numbers.add(height(cell, strip));
+            }
+        }
+        for (int strip = 0; strip <= 2; strip++) {
+            for (int what = 0; what <= 5; what++) {
+                numbers.add(profile(strip, what));
+            }
+        }
+        numbers.add(lacking(-1));
+        for (int[] order : world.orders) {
+            for (int part : order) {
+                numbers.add(part);
+            }
+        }
+        for (int what = 0; what <= 6; what++) {
+            numbers.add(foretell(20, what));
+        }
+        numbers.add(emptyAfter());
+        text.chars().forEach(numbers::add);
+        long h = 149;
+        for (int v : numbers) {
+            h = 31 * h + v;
+        }
+        return h;
+    }
+
     String text() {
         return text;
     }

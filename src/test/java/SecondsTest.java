@@ -93,7 +93,7 @@ public final class SecondsTest {
     }
 
     private static void fallingBesideTheTrack() {
-        BallastTrain train = Checks.standingAt(39, 10);
+        BallastTrain train = Trains.standingAt(39, 10);
         train.door(0, 2, 1);
         train.pass(1);
         CHECKS.due("on the last cell", train.height(39, 2), 1);
@@ -105,7 +105,7 @@ public final class SecondsTest {
     }
 
     private static void doorsShareALoad() {
-        BallastTrain train = Checks.standingAt(0, 4);
+        BallastTrain train = Trains.standingAt(0, 4);
         train.door(0, 0, 1);
         train.door(0, 1, 2);
         train.door(0, 2, 3);
@@ -116,7 +116,7 @@ public final class SecondsTest {
     }
 
     private static void slidingForward() {
-        BallastTrain train = Checks.standingAt(0, 200);
+        BallastTrain train = Trains.standingAt(0, 200);
         train.door(0, 1, 3);
         train.pass(1);
         heights(train, 1, 3, 0);
@@ -131,7 +131,7 @@ public final class SecondsTest {
     }
 
     private static void slidingBack() {
-        BallastTrain train = Checks.standingAt(1, 200);
+        BallastTrain train = Trains.standingAt(1, 200);
         train.set(0, 1);
         train.door(0, 1, 3);
         train.pass(1);
@@ -139,7 +139,7 @@ public final class SecondsTest {
         train.set(0, 4);
         train.pass(1);
         heights(train, 1, 1, 4, 1, 0);
-        BallastTrain last = Checks.standingAt(39, 200);
+        BallastTrain last = Trains.standingAt(39, 200);
         last.door(0, 1, 3);
         last.pass(2);
         CHECKS.due("the last cell slides back", last.height(38, 1), 1);
@@ -147,7 +147,7 @@ public final class SecondsTest {
     }
 
     private static void shoulders() {
-        BallastTrain train = Checks.standingAt(0, 200);
+        BallastTrain train = Trains.standingAt(0, 200);
         train.set(1, 2);
         for (int door = 0; door < 3; door++) {
             train.door(0, door, 3);
@@ -169,7 +169,7 @@ public final class SecondsTest {
     }
 
     private static void closingLate() {
-        BallastTrain train = Checks.standingAt(0, 90);
+        BallastTrain train = Trains.standingAt(0, 90);
         train.set(2, 2);
         train.door(0, 1, 1);
         train.door(0, 1, 0);
@@ -206,7 +206,7 @@ public final class SecondsTest {
     }
 
     private static void jams() {
-        BallastTrain train = Checks.standingAt(0, 104);
+        BallastTrain train = Trains.standingAt(0, 104);
         train.set(2, 0);
         train.door(0, 1, 3);
         train.door(0, 1, 0);

@@ -30,13 +30,13 @@ public final class TextTest {
     }
 
     private static void clearing() {
-        BallastTrain train = Checks.typed("@1v1;");
+        BallastTrain train = Trains.typed("@1v1;");
         CHECKS.due("clearText()", train.clearText(), 5);
         CHECKS.due("clearText() again", train.clearText(), 0);
         CHECKS.due("length", train.count(13), 0);
         CHECKS.due("fault of the empty text", train.fault(), BallastTrain.NONE);
         CHECKS.due("clearing is no change", train.count(12), 0);
-        Checks.typed(train, "@1v1");
+        Trains.typed(train, "@1v1");
         CHECKS.due("what was cleared is not read", train.fault(), 4);
     }
 
@@ -124,6 +124,6 @@ public final class TextTest {
     }
 
     private static void fault(String text, int want) {
-        CHECKS.due("fault() of '" + text + "'", Checks.typed(text).fault(), want);
+        CHECKS.due("fault() of '" + text + "'", Trains.typed(text).fault(), want);
     }
 }

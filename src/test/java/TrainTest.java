@@ -37,14 +37,14 @@ public final class TrainTest {
     }
 
     private static void newTrain() {
-        BallastTrain train = Checks.standingAt(3, 100);
+        BallastTrain train = Trains.standingAt(3, 100);
         train.door(0, 1, 3);
         train.pass(2);
         train.door(0, 0, 2);
         train.door(0, 0, 0);
         train.wish(2);
         train.pass(1);
-        Checks.typed(train, "@30v1;").order();
+        Trains.typed(train, "@30v1;").order();
         int time = train.count(4);
         int track = train.count(9);
         CHECKS.due("units on the track", track, 11);
