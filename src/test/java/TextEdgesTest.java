@@ -27,6 +27,7 @@ public final class TextEdgesTest {
         noBlankWithinANumber();
         onlyTheByte32IsABlank();
         aTextThatEndsTooEarly();
+        aTextThatEndsBeforeTheClearedOne();
         faultsOfAFullText();
         CHECKS.end();
     }
@@ -335,6 +336,22 @@ public final class TextEdgesTest {
                 fault("@1v1;" + start, length + 5);
             }
             fault(order, NONE);
+        }
+    }
+
+    /** The same for a text that is shorter than the one before: nothing stands at its length. */
+    private static void aTextThatEndsBeforeTheClearedOne() {
+        for (String order : new String[] {"@12o3m2;", "@7c0r;", "@39v0;"}) {
+            for (int length = 0; length <= order.length(); length++) {
+                BallastTrain train = Trains.typed(order + order);
+                Trains.typed(train, order.substring(0, length));
+                boolean whole = length == 0 || length == order.length();
+                String name = "fault() with " + length + " bytes of '" + order + "'";
+                CHECKS.due(name, train.fault(), whole ? NONE : length);
+                int orders = length == 0 ? 0 : 1;
+                CHECKS.due("order()", train.order(), whole ? orders : BallastTrain.STATE);
+                CHECKS.due("orders", train.count(5), whole ? orders : 0);
+            }
         }
     }
 
